@@ -664,7 +664,7 @@ public final class MostRooms {
     private static final class House {
         final int[] seats = new int[ROOMS_MOST];
         final int[] seen = new int[ROOMS_MOST];
-        /** How many were IN the ROOMS ahead of the latest BELL; told by nothing at BELL 0. */
+        /** How many were IN the ROOMS ahead of the latest BELL; not looked at while there was none. */
         final int[] before = new int[ROOMS_MOST];
         final int[] sort = new int[CROWDS_MOST];
         final int[] at = new int[CROWDS_MOST];
@@ -678,25 +678,23 @@ public final class MostRooms {
         /** Of use within one BELL alone. */
         private final int[] in = new int[ROOMS_MOST];
         private final int[] alike = new int[ROOMS_MOST];
-        private final int[] goal = new int[CROWDS_MOST];
+        private final int[] goals = new int[CROWDS_MOST];
 
+        /** For a plan, in which no BELL rings; the rest is told anew. */
         void clear() {
             rooms = 0;
             crowds = 0;
-            gone = 0;
-            guests = 0;
             for (int r = 0; r < ROOMS_MOST; r++) {
                 seen[r] = 0;
-                before[r] = 0;
             }
         }
 
+        /** Guests are none of it: they are of one foretelling alone. */
         void take(House other) {
             rooms = other.rooms;
             crowds = other.crowds;
             gone = other.gone;
-            guests = other.guests;
-            guestRoom = other.guestRoom;
+            guests = 0;
             System.arraycopy(other.seats, 0, seats, 0, ROOMS_MOST);
             System.arraycopy(other.seen, 0, seen, 0, ROOMS_MOST);
             System.arraycopy(other.before, 0, before, 0, ROOMS_MOST);
@@ -723,7 +721,7 @@ public final class MostRooms {
         }
 
         int headsIn(int room) {
-            int n = guestRoom == room ? guests : 0;
+            int n = 0;
             for (int c = 0; c < crowds; c++) {
                 if (at[c] == room) {
                     n += heads[c];
@@ -757,15 +755,15 @@ public final class MostRooms {
         int ring() {
             countHeads();
             for (int c = 0; c < crowds; c++) {
-                goal[c] = goalOf(c);
+                goals[c] = goalOf(c);
             }
             System.arraycopy(in, 0, before, 0, ROOMS_MOST);
             gone++;
             int went = 0;
             for (int c = 0; c < crowds; c++) {
-                if (goal[c] != at[c]) {
+                if (goals[c] != at[c]) {
                     went |= 1 << c;
-                    at[c] = goal[c];
+                    at[c] = goals[c];
                 }
             }
             return went;
@@ -785,25 +783,22 @@ public final class MostRooms {
             }
         }
 
-        private int goalOf(int c) {
-            switch (sort[c]) {
-                case MOST: return best(at[c], in, 1);
-                case FEW: return best(at[c], in, -1);
-                case LIKE: return best(at[c], alike, 1);
-                case LATE: return best(at[c], gone == 0 ? in : before, 1);
-                default: return at[c];
-            }
-        }
-
         /** A CROWD's own ROOM is the first that is looked at, as it stays there among equals. */
-        private int best(int own, int[] numbers, int sign) {
-            int room = own;
+        private int goalOf(int c) {
+            int own = at[c];
+            int kind = sort[c];
+            if (kind == STAY) {
+                return own;
+            }
+            int[] numbers = kind == LIKE ? alike : kind == LATE && gone > 0 ? before : in;
+            int sign = kind == FEW ? -1 : 1;
+            int goal = own;
             for (int r = 0; r < rooms; r++) {
-                if (((seen[own] >> r) & 1) == 1 && sign * numbers[r] > sign * numbers[room]) {
-                    room = r;
+                if (((seen[own] >> r) & 1) == 1 && sign * numbers[r] > sign * numbers[goal]) {
+                    goal = r;
                 }
             }
-            return room;
+            return goal;
         }
     }
 

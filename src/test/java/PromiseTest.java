@@ -22,6 +22,7 @@ public final class PromiseTest {
         t.housesAreRead();
         t.faultsAreTold();
         t.textsOfManyPartsAreRead();
+        t.tapesAreReadAnew();
         t.faultsAreKept();
         t.bellsRing();
         t.sortsGo();
@@ -88,6 +89,10 @@ public final class PromiseTest {
         is("count(0)", x.count(0), 2);
         Due.read(x, TWO);
         is("bells of an ITEM that is 0 again", x.bells(0, 39, 1), 13);
+        x.set(0, 0, 1);
+        is("row(0, 0, 1) anew", x.row(0, 0, 1), 1);
+        is("bells of ITEM 0 that is 0 again", x.bells(0, 0, 1), 13);
+        is("row(0, 1, 40) anew", x.row(0, 1, 40), 40);
         is("row(-1, 0, 1)", x.row(-1, 0, 1), BAD);
         is("row(8, 0, 1)", x.row(8, 0, 1), BAD);
         is("row(0, -1, 1)", x.row(0, -1, 1), BAD);
@@ -270,6 +275,15 @@ public final class PromiseTest {
         faulty("crowd most 0 1;", 0, 1);
         faulty(" rooms 1;", 1, 1);
         faulty("roo 1;", 0, 1);
+        faulty("doom 1;", 0, 1);
+        faulty("rood 1;", 0, 1);
+        faulty("rooma 1;", 0, 1);
+        faulty("roomz 1;", 0, 1);
+        faulty("room` 1;", 4, 1);
+        faulty("room{ 1;", 4, 1);
+        faulty("room 1/;", 6, 1);
+        faulty("room 1:;", 6, 1);
+        faulty("room 9a;", 6, 1);
         faulty("Room 1;", 0, 1);
         faulty("room ;", 5, 1);
         faulty("room 100;", 5, 2);
@@ -326,6 +340,21 @@ public final class PromiseTest {
         is("room(0, 2): one DOOR told twelve times", x.room(0, 2), 2);
         is("door(1, 0, 0)", x.door(1, 0, 0), 1);
         is("room(0, 2): shut", x.room(0, 2), 0);
+    }
+
+    private void tapesAreReadAnew() {
+        due.part("7 house, nothing of the tape before");
+        MostRooms x = new MostRooms();
+        is("house() of roomroom", Due.read(x, "roomroom"), -1000100);
+        is("house() of room", Due.read(x, "room"), -1000104);
+        is("house() of room 1111", Due.read(x, "room 1111"), -1000105);
+        is("house() of room 1", Due.read(x, "room 1"), -1000106);
+        String full = times("room 1;", 6) + times("door 0 1;", 12) + times("crowd few 0 1;", 5);
+        is("house() of many", Due.read(x, full), 6);
+        is("house() of as many", Due.read(x, full), 6);
+        is("house() without a DOOR", Due.read(x, "room 1;room 1;crowd few 0 1;"), 2);
+        is("room(0, 2)", x.room(0, 2), 0);
+        is("count(2)", x.count(2), 1);
     }
 
     private void faultsAreKept() {
@@ -435,7 +464,9 @@ public final class PromiseTest {
         is("bells(0, 0, 16)", x.bells(0, 0, 16), FULL);
         is("count(3)", x.count(3), 9984);
         is("crowd(0, 0)", x.crowd(0, 0), 0);
-        is("bells(0, 0, 14)", x.bells(0, 0, 14), 1);
+        is("bells(0, 0, 15): the last of them", x.bells(0, 0, 15), 1);
+        is("bell()", x.bell(), FULL);
+        is("undo()", x.undo(), 23);
         is("bells(1, 0, 2)", x.bells(1, 0, 2), FULL);
         is("count(5)", x.count(5), 1);
         is("bell()", x.bell(), 1);
@@ -745,6 +776,21 @@ public final class PromiseTest {
         is("hired(1, 3, 0): 'stay' ones alone", none.hired(1, 3, 0), 0);
         MostRooms two = Due.with("room 1;room 1;crowd most 0 5;crowd most 1 2;");
         is("hired(0, 3, 0)", two.hired(0, 3, 0), NONE);
+        MostRooms one = Due.with("room 1;room 1;door 0 1;crowd most 0 5;crowd stay 1 5;");
+        is("hired(1, 3, 0): one head is enough", one.hired(1, 3, 0), 1);
+        is("hired(1, 3, 1)", one.hired(1, 3, 1), 1);
+        is("ahead(0, 1): none is hired any more", one.ahead(0, 1), 0);
+        one.hired(1, 3, 0);
+        is("rest(0)", one.rest(0), 0);
+        one.hired(1, 3, 0);
+        is("rest(1)", one.rest(1), 1);
+        one.hired(1, 3, 0);
+        is("roomAhead(1, 1, 0)", one.roomAhead(1, 1, 0), 5);
+        one.hired(1, 3, 0);
+        is("apart(0, 1, 3)", one.apart(0, 1, 3), -1);
+        one.hired(1, 3, 0);
+        is("began(-1, 1)", one.began(-1, 1), 1);
+        is("bell()", one.bell(), 0);
         due.part("19 hired, wrong");
         is("hired(3, 1, 0)", x.hired(3, 1, 0), BAD);
         is("hired(-1, 1, 0)", x.hired(-1, 1, 0), BAD);
@@ -783,6 +829,10 @@ public final class PromiseTest {
         MostRooms z = Due.with("room 1;room 1;door 0 1;crowd few 0 5;crowd stay 1 9;");
         is("hired(1, 1, 0): it goes from where they are hired", z.hired(1, 1, 0), 5);
         is("empty(0, 1, 0)", z.empty(0, 1, 0), NONE);
+        MostRooms own = Due.with("room 1;room 1;door 0 1;crowd few 0 5;crowd stay 1 5;");
+        is("hired(1, 1, 0)", own.hired(1, 1, 0), 1);
+        is("hired(1, 1, 1)", own.hired(1, 1, 1), 0);
+        is("empty(0, 1, 0)", own.empty(0, 1, 0), NONE);
         MostRooms least = Due.with("room 1;room 1;room 1;door 2 1;door 0 2;crowd most 2 3;");
         is("empty(2, 1, 0)", least.empty(2, 1, 0), 4);
         is("empty(2, 1, 1): the least ROOM", least.empty(2, 1, 1), 0);
@@ -851,6 +901,7 @@ public final class PromiseTest {
         z.bell();
         z.heads(0, 9);
         is("began(-1, 1)", z.began(-1, 1), 1);
+        is("began(0, 1): not from where it was", z.began(0, 1), 1);
         z.heads(0, 1);
         is("began(-1, 1)", z.began(-1, 1), 2);
         is("began(0, 2)", z.began(0, 2), 0);
