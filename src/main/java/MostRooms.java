@@ -13,8 +13,8 @@ public final class MostRooms {
 
     /** The KINDS; a SORT is held as the number of its KIND. */
     private static final int MOST = 1, LIKE = 2, LATE = 3, STAY = 4, FEW = 5;
-    /** By KIND: the KIND that it is, too. */
-    private static final int[] PARENT = {-1, 0, 1, 1, 0, 4};
+    /** By KIND: the nearest KIND that it is, too; CROWD (0) is no other. */
+    private static final int[] PARENT = {0, 0, 1, 1, 0, 4};
     /** By KIND: the BODY told for it; 0: none is told. */
     private static final int[] SIZE_BODY = {10, 11, 12, 0, 13, 14};
     private static final int[] MARK_BODY = {20, 21, 24, 22, 23, 0};
@@ -379,7 +379,7 @@ public final class MostRooms {
 
     private static boolean isA(int sort, int kind) {
         int k = sort;
-        for (int depth = 0; depth < PARENT.length && k > kind; depth++) {
+        for (int depth = 0; depth < PARENT.length && k != kind && k > 0; depth++) {
             k = PARENT[k];
         }
         return k == kind;
