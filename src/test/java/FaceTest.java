@@ -6,9 +6,12 @@ import java.lang.reflect.Modifier;
 import java.nio.charset.StandardCharsets;
 import java.nio.file.Files;
 import java.nio.file.Path;
+import java.util.ArrayList;
 import java.util.Arrays;
 import java.util.List;
+import java.util.Map;
 import java.util.Set;
+import java.util.TreeMap;
 import java.util.TreeSet;
 import java.util.regex.Matcher;
 import java.util.regex.Pattern;
@@ -23,6 +26,7 @@ public final class FaceTest {
         "hired(int,int,int)", "empty(int,int,int)", "apart(int,int,int)", "began(int,int)", "image(int)",
         "restore(int)", "kind(int)", "as(int,int)", "ask(int,int)", "trace(int)", "count(int)", "status()"));
     private static final int FIELDS_MOST = 20, CLASSES_MOST = 12, PARAMETERS_MOST = 7, LINES_MOST = 60;
+    private static final int CALLS_MOST = 8;
 
     private int wrong = 0;
 
@@ -33,6 +37,7 @@ public final class FaceTest {
         t.innerClasses();
         t.words();
         t.methodLengths();
+        t.callDepths();
         System.out.println(t.wrong == 0 ? "the face is as told" : t.wrong + " faults of the face");
         if (t.wrong != 0) {
             System.exit(1);
@@ -153,6 +158,53 @@ public final class FaceTest {
                     end++;
                 }
                 look(end - i < LINES_MOST, "a long method at line " + (i + 1));
+            }
+        }
+    }
+
+    /** By each method's name what its lines call; methods of one name are taken together. */
+    private static Map<String, Set<String>> calls() throws IOException {
+        String code = withoutComments(Files.readString(PROGRAM, StandardCharsets.UTF_8));
+        Map<String, String> bodies = new TreeMap<>();
+        Matcher method = Pattern.compile("(?m)^( {4}| {8})(?! )[\\w\\[\\] ]*?\\b(\\w+)\\([^()]*\\) \\{$").matcher(code);
+        while (method.find()) {
+            int end = code.indexOf("\n" + method.group(1) + "}", method.end());
+            bodies.merge(method.group(2), code.substring(method.end(), end), String::concat);
+        }
+        Map<String, Set<String>> calls = new TreeMap<>();
+        for (String name : bodies.keySet()) {
+            Set<String> called = new TreeSet<>();
+            Matcher call = Pattern.compile("\\b(\\w+)\\(").matcher(bodies.get(name));
+            while (call.find()) {
+                if (bodies.containsKey(call.group(1))) {
+                    called.add(call.group(1));
+                }
+            }
+            calls.put(name, called);
+        }
+        return calls;
+    }
+
+    /** The names of the longest chain of calls from a method on, in which none stands twice. */
+    private static List<String> chain(Map<String, Set<String>> calls, List<String> open, String name) {
+        List<String> now = new ArrayList<>(open);
+        now.add(name);
+        List<String> longest = now;
+        for (String next : calls.get(name)) {
+            List<String> one = now.contains(next) ? now : chain(calls, now, next);
+            longest = one.size() > longest.size() ? one : longest;
+        }
+        return longest;
+    }
+
+    private void callDepths() throws IOException {
+        Map<String, Set<String>> calls = calls();
+        for (String head : FACE) {
+            String name = head.substring(0, head.indexOf('('));
+            look(calls.containsKey(name), "not found among the lines: " + name);
+            if (calls.containsKey(name)) {
+                List<String> chain = chain(calls, List.of(), name);
+                look(chain.size() <= CALLS_MOST, "calls go too deep: " + chain);
             }
         }
     }

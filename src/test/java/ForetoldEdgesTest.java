@@ -6,12 +6,16 @@ public final class ForetoldEdgesTest {
     private static final String SIX = "room 9;".repeat(6);
     /** It is in ROOM 0 behind each even number of BELLS, in ROOM 1 behind each odd one. */
     private static final String TO_AND_FRO = TWO + "crowd few 0 4;";
-    /** The longest way to REST that was found by search, and the longest RING: both 24. */
+    /** The longest way to REST that was found by search: 24. */
     private static final String LONG_REST = SIX + "door 0 1;door 0 3;door 1 2;door 2 5;door 4 5;"
         + "crowd most 2 9;crowd late 5 4;crowd most 4 9;crowd few 3 21;crowd like 5 5;";
+    /** Goes round by 24 for ever. */
     private static final String LONG_RING = SIX + "door 0 1;door 0 3;door 1 2;door 1 5;door 2 3;door 2 4;door 3 5;"
         + "crowd like 3 4;crowd most 3 5;crowd most 2 3;crowd few 5 37;crowd few 4 27;";
-    /** CROWDS 0 and 1 are IN one ROOM behind 50 BELLS for the first time: none found by search meet later. */
+    /** The longest RING that was found by search: behind one BELL, 34; it goes round by 6 in the end. */
+    private static final String FAR_RING = SIX + "door 0 3;door 0 4;door 1 3;door 1 5;door 2 4;door 2 5;door 3 5;"
+        + "crowd late 4 12;crowd few 4 43;crowd few 2 18;crowd most 5 7;crowd few 2 36;";
+    /** CROWDS 0 and 1 are IN one ROOM behind 50 BELLS for the first time. */
     private static final String LATE_MEETING = SIX + "door 0 3;door 0 5;door 1 3;door 1 4;door 2 4;door 2 5;door 3 5;"
         + "crowd few 4 44;crowd few 1 45;crowd late 4 10;crowd late 0 9;crowd most 5 5;";
 
@@ -30,6 +34,7 @@ public final class ForetoldEdgesTest {
         t.restIsNone();
         t.ringIsOneAtTheLeast();
         t.ringIsFarAway();
+        t.ringIsOfPlacesAlone();
         t.ringIsNone();
         t.restIsStateAheadOfBad();
         t.foretellingGoesBeyondTheLastBell();
@@ -57,6 +62,7 @@ public final class ForetoldEdgesTest {
         t.apartIsNone();
         t.apartIsBehindTheNextBells();
         t.apartIsBehindAsManyBells();
+        t.apartIsFartherBehindChanges();
         t.apartIsBad();
         t.beganByNoneIsAsItIs();
         t.beganIsByNineBellsAtMost();
@@ -212,6 +218,52 @@ public final class ForetoldEdgesTest {
         MostRooms y = Due.with("room 1;room 1;room 1;room 1;door 0 1;door 2 3;"
             + "crowd few 0 4;crowd most 2 1;crowd stay 3 2;");
         is("rest(1): one of them never comes back", y.rest(1), NONE);
+    }
+
+    /** DOORS are made where they were shut, and shut where they were, by pairs of ROOMS. */
+    private static void turn(MostRooms x, int... pairs) {
+        for (int pair : pairs) {
+            int a = pair / 10;
+            int b = pair % 10;
+            x.door(a, b, 1 - (x.room(a, 2) >> b & 1));
+        }
+    }
+
+    private static void heads(MostRooms x, int... heads) {
+        for (int c = 0; c < heads.length; c++) {
+            x.heads(c, heads[c]);
+        }
+    }
+
+    /** The fewest BELLS behind which all are where they are now, told by ahead() alone. */
+    private static int bellsBack(MostRooms x) {
+        for (int n = 1; n <= 60; n++) {
+            boolean back = true;
+            for (int c = 0; c < x.count(2); c++) {
+                back &= x.ahead(c, n) == x.crowd(c, 0);
+            }
+            if (back) {
+                return n;
+            }
+        }
+        return NONE;
+    }
+
+    private void ringIsOfPlacesAlone() {
+        due.part("RING: where it is now: what 'late' ones go by may be other then");
+        MostRooms x = Due.with(FAR_RING);
+        is("rest(1): where it begins it never is again", x.rest(1), NONE);
+        x.bell();
+        is("ahead() by 34", bellsBack(x), 34);
+        is("rest(1)", x.rest(1), 34);
+        for (int k = 2; k <= 29; k++) {
+            x.bell();
+            is("rest(1) behind " + k, x.rest(1), NONE);
+        }
+        for (int k = 30; k <= 36; k++) {
+            x.bell();
+            is("rest(1) behind " + k, x.rest(1), 6);
+        }
     }
 
     private void ringIsNone() {
@@ -542,6 +594,23 @@ public final class ForetoldEdgesTest {
         }
         is("apart(0, 1, 50): the DOOR 0 5", x.apart(0, 1, 50), 5);
         is("apart(0, 1, 60)", x.apart(0, 1, 60), 5);
+    }
+
+    private void apartIsFartherBehindChanges() {
+        due.part("APART: n 1 to 60, with what 'late' ones go by from before DOORS and HEADS changed");
+        MostRooms x = Due.with(SIX + "door 0 1;door 0 2;door 0 3;door 0 4;door 0 5;door 1 3;door 1 5;door 2 3;"
+            + "door 2 4;door 3 5;door 4 5;"
+            + "crowd late 3 1;crowd most 0 37;crowd few 1 1;crowd few 3 1;crowd late 4 49;");
+        heads(x, 69, 37, 86, 52, 49);
+        x.bell();
+        turn(x, 1, 2, 4, 14, 15, 23, 25, 45);
+        heads(x, 17, 17, 96, 87, 61);
+        for (int n = 1; n <= 50; n++) {
+            is("apart(2, 3, " + n + ")", x.apart(2, 3, n), -1);
+        }
+        is("ahead(2, 51) is ahead(3, 51)", x.ahead(2, 51), x.ahead(3, 51));
+        is("apart(2, 3, 51) needs a DOOR", x.apart(2, 3, 51) == -1 ? 0 : 1, 1);
+        is("apart(2, 3, 60): the same", x.apart(2, 3, 60), x.apart(3, 2, 51));
     }
 
     private void apartIsBad() {
